@@ -56,12 +56,10 @@ public final class StampedRows {
 
     private static final Word[] WORDS = Word.values();
 
-    private final byte[] tape = new byte[MOST_BYTES];
-    private final Reader reader = new Reader(tape);
+    private final Reader reader = new Reader();
     private final Rows rows = new Rows();
     private final Evidence evidence = new Evidence();
     private final History history = new History();
-    private int tapeLength;
     private int troubleNumber;
     private int faultNumber;
     private int faultPlace;
@@ -72,22 +70,22 @@ public final class StampedRows {
     // ---- the store
 
     public int feed(int a, int b, int c, int d, int e) {
-        if (tapeLength + 20 > MOST_BYTES) {
+        Tape tape = reader.tape;
+        if (tape.size + 20 > MOST_BYTES) {
             return NONE;
         }
-        addFourBytes(a);
-        addFourBytes(b);
-        addFourBytes(c);
-        addFourBytes(d);
-        addFourBytes(e);
-        return tapeLength;
+        tape.addFour(a);
+        tape.addFour(b);
+        tape.addFour(c);
+        tape.addFour(d);
+        tape.addFour(e);
+        return tape.size;
     }
 
     public int store(int n) {
-        if (n < 0 || n > tapeLength) {
+        if (n < 0 || n > reader.tape.size) {
             return refuse(BAD_NUMBER);
         }
-        tapeLength = 0;
         boolean good = reader.readStore(n);
         faultNumber = reader.fault;
         faultPlace = reader.place;
@@ -557,7 +555,7 @@ public final class StampedRows {
             case 8:
                 return history.imageCount;
             case 9:
-                return tapeLength;
+                return reader.tape.size;
             default:
                 return NONE;
         }
@@ -581,13 +579,6 @@ public final class StampedRows {
     private int refuse(int why) {
         troubleNumber = why;
         return NONE;
-    }
-
-    private void addFourBytes(int four) {
-        for (int shift = 24; shift >= 0 && tapeLength < MOST_BYTES; shift -= 8) {
-            tape[tapeLength] = (byte) (four >>> shift);
-            tapeLength++;
-        }
     }
 
     private int stampTrouble(int stamp) {
@@ -986,8 +977,13 @@ public final class StampedRows {
 
         int sumSeen(long counting) {
             int total = 0;
-            for (int row = 0; row < rowCount; row++) {
-                total += Math.max(0, valueSeen(row, counting));
+            int rowsFound = 0;
+            for (int k = count - 1; k >= 0; k--) {
+                int v = madeAt(k);
+                if (isSeen(v, counting) && (rowsFound >> rowOf(v) & 1) == 0) {
+                    rowsFound |= 1 << rowOf(v);
+                    total += valueOf(v);
+                }
             }
             return total;
         }
@@ -1574,8 +1570,8 @@ public final class StampedRows {
         }
     }
 
-    /** The TOKENS of THE TAPE's first bytes, from left to right. */
-    private static final class Scanner {
+    /** THE TAPE, and the TOKENS of its first bytes, from left to right. */
+    private static final class Tape {
         static final int END = 0;
         static final int WORD = 1;
         static final int WHOLE = 2;
@@ -1584,27 +1580,34 @@ public final class StampedRows {
         private static final int LONGEST_WORD = 8;
         private static final int LONGEST_WHOLE = 3;
 
+        int size;
         int kind;
         int start;
         /** A WORD's letters, five bits each, or what a WHOLE counts. */
         long value;
         private int after;
+        /** How many bytes the text has that is read. */
         private int length;
-        private final byte[] tape;
+        private final byte[] bytes = new byte[MOST_BYTES];
 
-        Scanner(byte[] tape) {
-            this.tape = tape;
+        void addFour(int four) {
+            for (int shift = 24; shift >= 0 && size < MOST_BYTES; shift -= 8) {
+                bytes[size] = (byte) (four >>> shift);
+                size++;
+            }
         }
 
-        void startAnew(int n) {
-            length = Math.min(n, tape.length);
+        /** From now on THE TAPE is empty, and its first bytes are the text. */
+        void startText(int n) {
+            length = Math.min(n, size);
+            size = 0;
             after = 0;
             advance();
         }
 
         void advance() {
             start = after;
-            while (start < length && tape[start] == ' ') {
+            while (start < length && bytes[start] == ' ') {
                 start++;
             }
             after = start;
@@ -1612,7 +1615,7 @@ public final class StampedRows {
                 kind = END;
                 return;
             }
-            int first = tape[start];
+            int first = bytes[start];
             if (first == ';') {
                 kind = SEMICOLON;
                 after = start + 1;
@@ -1627,8 +1630,8 @@ public final class StampedRows {
 
         private void scanWord() {
             value = 0L;
-            while (after < length && tape[after] >= 'a' && tape[after] <= 'z') {
-                value = value * 32 + (tape[after] - 'a' + 1);
+            while (after < length && bytes[after] >= 'a' && bytes[after] <= 'z') {
+                value = value * 32 + (bytes[after] - 'a' + 1);
                 after++;
             }
             kind = after - start <= LONGEST_WORD ? WORD : BAD;
@@ -1636,8 +1639,8 @@ public final class StampedRows {
 
         private void scanWhole() {
             value = 0L;
-            while (after < length && tape[after] >= '0' && tape[after] <= '9') {
-                value = value * 10 + (tape[after] - '0');
+            while (after < length && bytes[after] >= '0' && bytes[after] <= '9') {
+                value = value * 10 + (bytes[after] - '0');
                 after++;
             }
             kind = after - start <= LONGEST_WHOLE ? WHOLE : BAD;
@@ -1648,7 +1651,7 @@ public final class StampedRows {
                 return false;
             }
             for (int i = 0; i < text.length() && start + i < length; i++) {
-                if (text.charAt(i) != tape[start + i]) {
+                if (text.charAt(i) != bytes[start + i]) {
                     return false;
                 }
             }
@@ -1672,7 +1675,7 @@ public final class StampedRows {
         int place;
         final Rows rows = new Rows();
         final Evidence evidence = new Evidence();
-        private final Scanner scanner;
+        final Tape tape = new Tape();
         private int nameCount;
         private final long[] names = new long[MOST_NAMES];
         private final int[] nameStamps = new int[MOST_NAMES];
@@ -1687,10 +1690,6 @@ public final class StampedRows {
         private int row;
         private int whole;
 
-        Reader(byte[] tape) {
-            scanner = new Scanner(tape);
-        }
-
         boolean readStore(int n) {
             fault = NO_FAULT;
             place = NOTHING;
@@ -1698,7 +1697,7 @@ public final class StampedRows {
             unsureCount = 0;
             rows.startAnew(0, 0, 0, 0);
             evidence.startAnew();
-            scanner.startAnew(n);
+            tape.startText(n);
             // a LINE takes a byte at least, so no text has more of them than bytes
             for (int lines = 0; lines <= n; lines++) {
                 if (!readLine()) {
@@ -1707,18 +1706,18 @@ public final class StampedRows {
                 if (!doAct()) {
                     return fail(REFUSED);
                 }
-                if (scanner.kind == Scanner.END) {
+                if (tape.kind == Tape.END) {
                     tellUnsure();
                     return true;
                 }
-                scanner.advance();
+                tape.advance();
             }
             return fail(FORM);
         }
 
         private boolean fail(int number) {
             fault = number;
-            place = scanner.start;
+            place = tape.start;
             return false;
         }
 
@@ -1755,7 +1754,7 @@ public final class StampedRows {
 
         /** Reads a LINE up to the TOKEN behind it; what it tells of itself, but for its ACT, stands then. */
         private boolean readLine() {
-            head = scanner.reserved();
+            head = tape.reserved();
             if (head == null || head == Word.NONE) {
                 return fail(FORM);
             }
@@ -1817,7 +1816,7 @@ public final class StampedRows {
             if (name != NOTHING) {
                 return fail(AGAIN);
             }
-            names[nameCount] = scanner.value;
+            names[nameCount] = tape.value;
             return takeLineEnd();
         }
 
@@ -1858,11 +1857,11 @@ public final class StampedRows {
             if (evidence.isRowSeen(row)) {
                 return fail(AGAIN);
             }
-            scanner.advance();
-            if (scanner.reserved() == Word.NONE) {
+            tape.advance();
+            if (tape.reserved() == Word.NONE) {
                 evidence.addSeen(row, NOTHING);
-            } else if (scanner.kind == Scanner.WHOLE) {
-                evidence.addSeen(row, (int) scanner.value);
+            } else if (tape.kind == Tape.WHOLE) {
+                evidence.addSeen(row, (int) tape.value);
             } else {
                 return fail(FORM);
             }
@@ -1872,19 +1871,19 @@ public final class StampedRows {
         // the parts of a LINE
 
         private boolean takeText(String text) {
-            scanner.advance();
-            return scanner.isText(text) || fail(FORM);
+            tape.advance();
+            return tape.isText(text) || fail(FORM);
         }
 
         private boolean takeWhole(int least, int most) {
-            scanner.advance();
-            if (scanner.kind != Scanner.WHOLE) {
+            tape.advance();
+            if (tape.kind != Tape.WHOLE) {
                 return fail(FORM);
             }
-            if (scanner.value < least || scanner.value > most) {
+            if (tape.value < least || tape.value > most) {
                 return fail(OUT_OF_BOUNDS);
             }
-            whole = (int) scanner.value;
+            whole = (int) tape.value;
             return true;
         }
 
@@ -1896,13 +1895,13 @@ public final class StampedRows {
 
         /** A NAME: its number, or NOTHING if it isn't told yet. */
         private boolean takeName() {
-            scanner.advance();
-            if (scanner.kind != Scanner.WORD || scanner.reserved() != null) {
+            tape.advance();
+            if (tape.kind != Tape.WORD || tape.reserved() != null) {
                 return fail(FORM);
             }
             name = NOTHING;
             for (int i = 0; i < nameCount && i < MOST_NAMES; i++) {
-                if (names[i] == scanner.value) {
+                if (names[i] == tape.value) {
                     name = i;
                 }
             }
@@ -1920,8 +1919,8 @@ public final class StampedRows {
         }
 
         private boolean takeLineEnd() {
-            scanner.advance();
-            return scanner.kind == Scanner.SEMICOLON || scanner.kind == Scanner.END || fail(FORM);
+            tape.advance();
+            return tape.kind == Tape.SEMICOLON || tape.kind == Tape.END || fail(FORM);
         }
 
         // the ACTS

@@ -230,6 +230,11 @@ final class ActsTest {
         x.put(1, 0, 7);
         x.gone(1);
         x.freeze();
+        x.begin();
+        x.drop(0, 0);
+        Check.same("undo drop", x.undo(), true);
+        Check.same("undo drop", x.read(0, 0), 6);
+        Check.same("undo begin", x.undo(), true);
         x.clear();
         Check.same("undo clear", x.undo(), true);
         Check.same("undo clear", x.size(3), 2);

@@ -57,6 +57,10 @@ final class ChanceTest {
     private static void odds() {
         StampedRows x = Check.stored("store ring 32 rows 3 start 0 crash 30;begin a;put a 0 10;done a;begin b;put b 0 20;"
             + "begin c;put c 1 8");
+        x.age(-1);
+        Check.refused("odds behind a refused call", x, x.odds(0, 10, false), 3, 0);
+        x.age(-1);
+        Check.refused("mean behind a refused call", x, x.mean(true), 5, 0);
         dueOdds(x, 0, 10, 3, 10);
         dueOdds(x, 0, 20, 7, 10);
         dueOdds(x, 0, 11, 0, 1);
@@ -110,6 +114,10 @@ final class ChanceTest {
         // 65,536 is one less than 0: 75 * 65,536 + 74 = 65,536 (mod 65,537): 36, and so on: all gone
         Check.same("drawn(65536)", x.drawn(65536), 0);
         Check.refused("drawn(-1)", x, x.drawn(-1), -1, 2);
+        StampedRows even = Check.stored("store ring 32 rows 1 start 0 crash 74;begin a;put a 0 1");
+        Check.same("a draw of crash isn't below it", even.drawn(0), 1);
+        StampedRows below = Check.stored("store ring 32 rows 1 start 0 crash 75;begin a;put a 0 1");
+        Check.same("a draw below crash", below.drawn(0), 0);
         Check.refused("drawn(65537)", x, x.drawn(65537), -1, 2);
         x.gone(0);
         // now b draws 74 and c 24

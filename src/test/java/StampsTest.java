@@ -84,6 +84,11 @@ final class StampsTest {
         Check.same("oldest() by both", x.oldest(), 2);
         Check.same("roomFrozen(): cleared, too", x.roomFrozen(), -2);
 
+        StampedRows full = Check.stored("store ring 8 rows 1 start 0 crash 0;begin a;begin b;done b;begin c;done c;begin d");
+        Check.same("oldest() of half the ring", full.oldest(), 4);
+        Check.same("room() of half the ring", full.room(), 0);
+        Check.same("roomFrozen() of half the ring", full.roomFrozen(), 0);
+        Check.refused("begin() of half the ring", full, full.begin(), -1, 3);
         StampedRows six = Check.stored("store ring 64 rows 1 start 0 crash 0");
         for (int i = 0; i < 5; i++) {
             six.begin();

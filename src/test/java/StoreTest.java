@@ -9,6 +9,7 @@ final class StoreTest {
         newObject();
         feed();
         store();
+        storeAnew();
         tokens();
         form();
         names();
@@ -77,6 +78,42 @@ final class StoreTest {
         Check.same("store anew: next()", x.next(), 63);
     }
 
+    /** What was there ahead of a new text must leave nothing behind, neither in the STORE nor in the reading. */
+    private static void storeAnew() {
+        StampedRows x = Check.stored("store ring 64 rows 8 start 0 crash 9;begin a;put a 7 3;done a;begin b;put b 6 3;"
+            + "gone b;begin c;begin d;put d 0 1;unsure a;unsure b;seen 7 1;seen 6 none");
+        x.gone(0);
+        Check.same("store anew", Check.store(x, HEAD + ";begin a;begin e;seen 3 none"), 0);
+        Check.same("store anew: running()", x.running(), 3);
+        Check.same("store anew: snapshot", x.writer(1, 2), 1);
+        Check.same("store anew: nobody's stamp", x.counts(0, 7), 0);
+        Check.same("store anew: horizon()", x.horizon(), 0);
+        Check.same("store anew: size(2)", x.size(2), 0);
+        Check.same("store anew: size(3)", x.size(3), 0);
+        Check.same("store anew: size(5)", x.size(5), 0);
+        Check.same("store anew: size(6)", x.size(6), 1);
+        Check.same("store anew: fits()", x.fits(), 1);
+        Check.same("store anew: fitAt(0)", x.fitAt(0), 0);
+        Check.same("store anew: judge()", x.judge(), -2);
+        Check.same("store anew: a name of the former text", Check.store(x, HEAD + ";done d"), -1);
+        Check.same("store anew: a name of the former text", x.fault(), 2);
+        Check.same("store anew: no store ahead", Check.store(x, "clear"), -1);
+        Check.same("store anew: no store ahead", x.fault(), 6);
+        Check.same("store: all that a tape holds", Check.store(x, full()), 1);
+    }
+
+    /** A text of all 900 bytes. */
+    private static String full() {
+        StringBuilder text = new StringBuilder(HEAD + ";begin a");
+        while (text.length() < 885) {
+            text.append(";put a 0 12");
+        }
+        while (text.length() < 900) {
+            text.append(' ');
+        }
+        return text.toString();
+    }
+
     /** A FAULT's number and place; 0 for none. */
     private static void due(String text, int fault, int place) {
         StampedRows x = new StampedRows();
@@ -99,6 +136,11 @@ final class StoreTest {
         behindHead("begin abcdefgh", 0, 0);
         behindHead("begin abcdefghi", 1, 6);
         behindHead("begin A", 1, 6);
+        behindHead("begin {", 1, 6);
+        behindHead("begin `", 1, 6);
+        behindHead("begin a;put a /", 1, 14);
+        behindHead("begin a;put a :", 1, 14);
+        behindHead("begin a;put a 0 1{", 1, 17);
         behindHead("begin a\n", 1, 7);
         behindHead("begin a\u00e9", 1, 7);
         behindHead("begin a;put a 0 1000", 1, 16);
@@ -158,9 +200,12 @@ final class StoreTest {
 
     private static void names() {
         behindHead("begin ring;put ring 0 1;done ring;begin rows;begin start;begin crash", 0, 0);
+        behindHead("begin az;begin za;begin a;begin z;put za 0 1;done az", 0, 0);
+        behindHead("begin az;done za", 2, 14);
+        behindHead("begin a;done aa", 2, 13);
+        behindHead("begin aa;done a", 2, 14);
         behindHead("put a 0 1", 2, 4);
         behindHead("begin a;drop b 0", 2, 13);
-        behindHead("begin a;done aa", 2, 13);
         behindHead("gone a;begin a", 2, 5);
         behindHead("unsure a", 2, 7);
     }

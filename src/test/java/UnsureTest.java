@@ -94,6 +94,15 @@ final class UnsureTest {
             + "done c;unsure a;unsure b;unsure c;seen 0 1;seen 2 none");
         due(second, "the second is unknown", 4, 6);
         ends(second, "the second is unknown", 6, 4, 1, 1, 1);
+        StampedRows last = Check.stored(HEAD + "begin a;put a 0 1;done a;begin b;put b 1 2;done b;unsure a;unsure b;"
+            + "seen 0 none");
+        due(last, "the first is sure", 1, 3);
+        ends(last, "the first is sure", 3, 1, 1, 1, 0);
+        // the last done in the chain 5, 6, 5, 6 is seen: y gone and x done, or z done
+        StampedRows chain = Check.stored(HEAD + "begin s;put s 0 5;done s;begin x;put x 0 6;done x;begin y;put y 0 5;done y;"
+            + "begin z;put z 0 6;gone z;unsure x;unsure y;unsure z;seen 0 6");
+        due(chain, "in some, but not in all", 2, 4, 5, 6, 7);
+        ends(chain, "in some, but not in all", 7, 0, 0, 3, 0);
         StampedRows four = Check.stored(HEAD + "begin a;done a;begin b;done b;begin c;done c;begin d;done d;unsure a;"
             + "unsure b;unsure c;unsure d");
         due(four, "four unsure, nothing seen", 0, 1, 2, 3, 4, 5, 6, 7, 8, 9, 10, 11, 12, 13, 14, 15);
