@@ -34,14 +34,20 @@ final class ActEdges {
         }
         Edge.tells(x, "size(7)", 6);
         Edge.does(x, "done(2)");
-        // who is made anew has lost nothing, and SEES as one who begins then
         Edge.tells(x, "size(4)", 5);
+        Edge.answers(x, "begin()", 2);
+        // who begins in the SLOT of one who has LOST hasn't
+        StampedRows lost = Edge.stored("store ring 8 rows 1 start 0 crash 0;begin a;begin b;put b 0 1;done b");
+        Edge.answers(lost, "put(0, 0, 2)", -2);
+        Edge.answers(lost, "writer(0, 1)", 1);
+        Edge.does(lost, "gone(0)");
+        Edge.answers(lost, "begin()", 0);
+        Edge.answers(lost, "writer(0, 1)", 0);
 
         Edge.says(49, "NONE: 1 (no STORE);");
         Edge.refuses(new StampedRows(), "begin()", 1);
 
         Edge.says(49, "3.");
-        Edge.answers(x, "begin()", 2);
         Edge.refuses(x, "begin()", 3);
         StampedRows half = Edge.stored(HEAD + ";begin a");
         TermEdges.pass(half, 3);

@@ -105,7 +105,6 @@ final class StampEdges {
                 int room = x.room();
                 Edge.isTrue("there is room", room >= 0);
                 TermEdges.pass(x, room);
-                Edge.refuses(new StampedRows(), "room()", 1);
                 Edge.same("begin() then", x.begin(), -1);
                 Edge.answers(x, "room()", 0);
             }
@@ -183,6 +182,9 @@ final class StampEdges {
             Edge.answers(x, "writer(0, " + what + ")", b[what]);
             Edge.answers(x, "writer(2, " + what + ")", d[what]);
         }
+        // the VERSION 0 is one, too
+        Edge.answers(Edge.stored(HEAD + ";begin a;put a 0 1"), "writer(0, 3)", 1);
+        Edge.answers(Edge.stored(HEAD + ";begin a;put a 0 1;done a;begin b;drop b 0"), "writer(0, 4)", 1);
         Edge.does(x, "done(0)");
         Edge.answers(x, "drop(1, 0)", -2);
         Edge.answers(x, "writer(1, 1)", 1);

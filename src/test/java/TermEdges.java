@@ -323,6 +323,14 @@ final class TermEdges {
         Edge.does(x, "gone(1)");
         // whoever still looks back beyond it
         Edge.answers(x, "version(0, 4)", 1);
+        // one was GONE who had the STAMP a round ago
+        StampedRows round = Edge.stored(HEAD + ";begin a;gone a");
+        pass(round, 7);
+        Edge.does(round, "begin()", "put(0, 0, 5)");
+        Edge.answers(round, "version(0, 2)", 0);
+        Edge.answers(round, "version(0, 4)", 0);
+        Edge.does(round, "done(0)");
+        Edge.answers(round, "version(0, 4)", 0);
 
         Edge.says("II", "or its TILL's WRITER is DONE and that is OLDER than the HORIZON.");
         StampedRows y = Edge.stored(HEAD + ";begin a;put a 0 1;done a;begin b;begin r;drop b 0");

@@ -85,6 +85,8 @@ final class TextEdges {
         behind(1, "begin ^Z");
         behind(1, "begin ^`");
         behind(1, "begin ^{");
+        // NAMES of other lengths are others
+        goodBehind("begin a;done a;begin aa;done aa;begin b;done b;begin bb;done bb;begin bbb;done bbb;begin ab;begin ba");
         // of eight letters all mean something
         goodBehind("begin abcdefgh;begin abcdefgz;begin zbcdefgh;begin abcdefg;done abcdefg;done abcdefgz");
         behind(2, "begin abcdefgh;done ^abcdefgi");
@@ -345,6 +347,9 @@ final class TextEdges {
         behind(1, "begin a;done a ^\t");
         behind(1, "begin ^$$");
         behind(1, "begin ^ninelette");
+        for (char sign : "$/:`{".toCharArray()) {
+            noTokenAnywhere(sign);
+        }
 
         Edge.says("I", "or TOKEN with which no STORE goes on");
         Edge.fault(1, "^5");
@@ -367,6 +372,19 @@ final class TextEdges {
         Check.feed(x, HEAD + ";begin abc");
         Edge.same("store(41)", x.store(41), -1);
         Edge.same("where()", x.where(), 41);
+    }
+
+    /** Whatever TOKEN is due, a sign that begins none is no FAULT but FORM. */
+    private static void noTokenAnywhere(char sign) {
+        String text = HEAD + " ; begin a ; put a 0 1 ; drop a 0 ; done a ; begin b ; gone b ; clear ; begin c ; put c 1 2 ; "
+            + "done c ; freeze ; unsure a ; seen 0 none ; seen 1 2";
+        Edge.good(text);
+        for (int place = 0; place < text.length(); place++) {
+            boolean isFirst = text.charAt(place) != ' ' && (place == 0 || text.charAt(place - 1) == ' ');
+            if (isFirst) {
+                Edge.fault(1, text.substring(0, place) + "^" + sign + text.substring(place));
+            }
+        }
     }
 
     private static void faultsOfNames() {
@@ -579,6 +597,13 @@ final class TextEdges {
         Edge.answers(y, "freshSum()", 0);
         Edge.answers(y, "fits()", 1);
         Edge.answers(y, "judge()", -2);
+        // nobody who was DONE in the STORE before COUNTS, and none of its FITS is left
+        StampedRows z = Edge.stored(HEAD + ";begin a;done a;begin b;gone b;unsure a;unsure b");
+        Edge.good(z, "store ring 8 rows 1 start 2 crash 0;begin c");
+        Edge.answers(z, "counts(0, 0)", 0);
+        Edge.answers(z, "counts(0, 1)", 0);
+        Edge.answers(z, "fits()", 1);
+        Edge.answers(z, "could()", 0);
 
         Edge.says(3, "(nothing to undo, no IMAGES):");
         Edge.does(y, "begin()", "image()", "gone(0)", "image()");

@@ -3,6 +3,9 @@ final class UnsureEdges {
     private static final String HEAD = "store ring 8 rows 3 start 0 crash 0";
     private static final String TWO = HEAD + ";begin a;put a 0 1;done a;begin b;put b 1 2;gone b;unsure b;unsure a";
 
+    /** 5 was seen, of a, of b, or of both. */
+    private static final String EITHER = HEAD + ";begin a;put a 0 5;gone a;begin b;put b 0 5;gone b;unsure a;unsure b;seen 0 5";
+
     private UnsureEdges() {
     }
 
@@ -48,6 +51,10 @@ final class UnsureEdges {
         Edge.answers(y, "fitAt(0)", 1);
         Edge.answers(y, "fitAt(1)", 3);
         Edge.answers(Edge.stored(HEAD), "fitAt(0)", 0);
+        StampedRows either = Edge.stored(EITHER);
+        for (int i = 0; i < 3; i++) {
+            Edge.answers(either, "fitAt(" + i + ")", i + 1);
+        }
         StampedRows most = Edge.stored(HEAD + ";begin a;done a;begin b;done b;begin c;done c;begin d;done d;unsure a;unsure b;"
             + "unsure c;unsure d");
         Edge.answers(most, "fitAt(15)", 15);
@@ -68,6 +75,8 @@ final class UnsureEdges {
         Edge.answers(Edge.stored(TWO), "could()", 3);
         Edge.answers(Edge.stored(TWO + ";seen 0 1"), "could()", 1);
         Edge.answers(Edge.stored(TWO + ";seen 0 1;seen 1 none"), "could()", 0);
+        Edge.answers(Edge.stored(TWO + ";seen 0 1;seen 1 2"), "could()", 1);
+        Edge.answers(Edge.stored(EITHER), "could()", 3);
         Edge.answers(Edge.stored(TWO + ";seen 2 5"), "could()", 0);
         Edge.answers(Edge.stored(HEAD), "could()", 0);
 
@@ -80,6 +89,7 @@ final class UnsureEdges {
         Edge.answers(Edge.stored(TWO), "surely()", 0);
         Edge.answers(Edge.stored(TWO + ";seen 0 none"), "surely()", 2);
         Edge.answers(Edge.stored(TWO + ";seen 0 none;seen 1 2"), "surely()", 3);
+        Edge.answers(Edge.stored(EITHER), "surely()", 0);
 
         Edge.says(39, "(0 without a set), as bits.");
         Edge.answers(Edge.stored(TWO + ";seen 2 5"), "surely()", 0);
