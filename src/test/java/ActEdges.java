@@ -122,6 +122,16 @@ final class ActEdges {
         Edge.answers(own, "put(0, 0, 8)", 47);
         Edge.does(own, "drop(0, 0)");
         Edge.refuses(own, "put(0, 0, 9)", 3);
+        StampedRows both = Edge.stored("store ring 8 rows 8 start 0 crash 0;begin a;begin b;put a 3 999;put b 5 999");
+        for (int i = 0; i < 46; i++) {
+            both.put(1, 0, i);
+            both.drop(1, 0);
+        }
+        Edge.answers(both, "put(0, 3, 998)", 0);
+        Edge.answers(both, "put(1, 5, 998)", 1);
+        Edge.refuses(both, "put(0, 6, 1)", 3);
+        Edge.refuses(both, "put(1, 0, 1)", 3);
+        Edge.refuses(both, "put(1, 3, 1)", 5);
     }
 
     private static void drop() {

@@ -185,6 +185,9 @@ final class StampEdges {
         // the VERSION 0 is one, too
         Edge.answers(Edge.stored(HEAD + ";begin a;put a 0 1"), "writer(0, 3)", 1);
         Edge.answers(Edge.stored(HEAD + ";begin a;put a 0 1;done a;begin b;drop b 0"), "writer(0, 4)", 1);
+        StampedRows sparse = Edge.stored(TermEdges.SPARSE + ";drop b 2");
+        Edge.answers(sparse, "writer(0, 3)", 2);
+        Edge.answers(sparse, "writer(0, 4)", 1);
         Edge.does(x, "done(0)");
         Edge.answers(x, "drop(1, 0)", -2);
         Edge.answers(x, "writer(1, 1)", 1);
@@ -259,6 +262,7 @@ final class StampEdges {
         Edge.answers(Edge.stored(HEAD + ";begin a;begin b"), "holdsBack()", 0);
         StampedRows y = Edge.stored(HEAD + ";begin a;begin b;begin c;gone a;begin d;gone b");
         Edge.answers(y, "holdsBack()", 2);
+        Edge.answers(Edge.stored(SIX + ";gone a;gone b;gone c;gone d;gone e"), "holdsBack()", 5);
 
         Edge.says(16, "-2 none RUNS.");
         Edge.answers(Edge.stored(HEAD), "holdsBack()", -2);

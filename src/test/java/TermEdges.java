@@ -3,6 +3,15 @@ final class TermEdges {
     private static final String HEAD = "store ring 8 rows 3 start 0 crash 0";
     private static final String WIDE = "store ring 64 rows 8 start 0 crash 0";
 
+    /** b, SLOT 0, STAMP 1, has made 3 and 4, of the ROWS 0 and 2; 0 to 2 are free again. */
+    static final String SPARSE = HEAD + ";begin a;put a 0 1;put a 1 1;put a 2 1;gone a;begin b;put b 0 7;put b 2 8;clear";
+    /** r, SLOT 0, STAMP 0, holds a's two VERSIONS back, 0 ended by b; g, who is gone, made 2 and ended 1. */
+    static final String HELD_BACK = HEAD + ";begin r;begin a;put a 0 1;put a 1 1;done a;begin b;drop b 0;done b;begin g;"
+        + "put g 2 1;drop g 1;gone g";
+    /** Six run, each of whom put in a ROW of his own: 1, 2, 4, 8, 16, 32. */
+    static final String SIX = "begin a;begin b;begin c;begin d;begin e;begin f;put a 0 1;put b 1 2;put c 2 4;put d 3 8;"
+        + "put e 4 16;put f 5 32";
+
     private TermEdges() {
     }
 
@@ -164,6 +173,11 @@ final class TermEdges {
         Edge.says("II", "is of a ROW, has a value, FROM: the STAMP of who made it (or it is FROZEN), "
             + "TILL: the STAMP of who ended it, or none.");
         StampedRows y = Edge.stored("store ring 8 rows 8 start 7 crash 0;begin a;put a 7 999;done a;begin b");
+        StampedRows sparse = Edge.stored(SPARSE);
+        int[] third = {0, 7, 1, -2};
+        for (int what = 0; what < third.length; what++) {
+            Edge.answers(sparse, "version(3, " + what + ")", third[what]);
+        }
         Edge.answers(y, "version(0, 0)", 7);
         Edge.answers(y, "version(0, 1)", 999);
         Edge.answers(y, "version(0, 2)", 7);
@@ -296,6 +310,18 @@ final class TermEdges {
         Edge.answers(snapshot, "oldest()", 3);
         Edge.does(snapshot, "gone(2)");
         Edge.answers(snapshot, "oldest()", -2);
+        StampedRows sparse = Edge.stored(SPARSE + ";done b");
+        Edge.answers(sparse, "oldest()", 1);
+        // no TILL, and no FROM of what is FROZEN, is no STAMP
+        StampedRows none = Edge.stored(WIDE + ";begin a;put a 0 1;done a");
+        Edge.answers(none, "oldest()", 1);
+        Edge.does(none, "freeze()");
+        Edge.answers(none, "oldest()", -2);
+        // the last SLOT's SNAPSHOT
+        StampedRows last = Edge.stored(WIDE + ";" + SIX + ";gone a;gone b;gone c;gone d;gone e;clear;gone f;clear");
+        Edge.answers(last, "oldest()", -2);
+        StampedRows sixth = Edge.stored(WIDE + ";" + SIX + ";gone a;gone b;gone c;gone d;gone e;clear");
+        Edge.answers(sixth, "oldest()", 6);
     }
 
     private static void horizon() {
@@ -309,6 +335,8 @@ final class TermEdges {
         Edge.answers(x, "horizon()", 7);
         Edge.does(x, "gone(2)");
         Edge.answers(x, "horizon()", 1);
+        StampedRows last = Edge.stored(WIDE + ";" + SIX + ";done a;done b;done c;done d;done e");
+        Edge.answers(last, "horizon()", 0);
 
         Edge.says("II", "NEXT, if none RUNS.");
         Edge.answers(Edge.stored("store ring 8 rows 1 start 6 crash 0"), "horizon()", 6);
@@ -344,6 +372,14 @@ final class TermEdges {
         Edge.answers(y, "dead()", 1);
         StampedRows gone = Edge.stored(HEAD + ";begin a;put a 0 1;done a;begin b;drop b 0;gone b");
         Edge.answers(gone, "dead()", 0);
+        StampedRows back = Edge.stored(HELD_BACK);
+        Edge.answers(back, "version(0, 4)", 0);
+        Edge.does(back, "gone(0)");
+        Edge.answers(back, "version(0, 4)", 1);
+        StampedRows sparse = Edge.stored(SPARSE);
+        Edge.answers(sparse, "frees(0)", 2);
+        Edge.does(sparse, "gone(0)");
+        Edge.answers(sparse, "dead()", 2);
         // half the ring is OLDER still
         StampedRows half = Edge.stored(HEAD + ";begin a;put a 0 1;done a;freeze;begin b;drop b 0;done b");
         pass(half, 3);
@@ -437,6 +473,11 @@ final class TermEdges {
             + "put d 0 3");
         Edge.answers(last, "may(0, 0)", 1);
         Edge.answers(last, "waitsFor(0, 0)", 2);
+        StampedRows sparse = Edge.stored(SPARSE + ";begin c");
+        for (int row = 0; row < 3; row++) {
+            Edge.answers(sparse, "may(1, " + row + ")", row == 1 ? 0 : 1);
+            Edge.answers(sparse, "waitsFor(1, " + row + ")", row == 1 ? -2 : 0);
+        }
         StampedRows own = Edge.stored(HEAD + ";begin a;put a 0 1;drop a 0");
         Edge.answers(own, "may(0, 0)", 0);
         StampedRows gone = Edge.stored(HEAD + ";begin a;begin b;put b 0 1;gone b");
@@ -462,6 +503,11 @@ final class TermEdges {
         Edge.answers(ended, "may(0, 0)", 0);
         Edge.does(ended, "freeze()");
         Edge.answers(ended, "may(0, 0)", 0);
+        // b's, who is DONE, is number 1; c's, who is GONE and made his later, 0
+        StampedRows later = Edge.stored(HEAD + ";begin z;put z 1 1;gone z;begin a;begin b;put b 0 1;clear;drop b 0;done b;"
+            + "begin c;put c 0 2;gone c");
+        Edge.answers(later, "chainAt(0, 1)", 0);
+        Edge.answers(later, "may(0, 0)", 2);
         // behind the one DONE there is another one's who RUNS: he is HELD
         StampedRows held = Edge.stored(HEAD + ";begin a;begin b;put b 0 1;drop b 0;done b;begin c;put c 0 2");
         Edge.answers(held, "may(0, 0)", 1);
@@ -518,6 +564,17 @@ final class TermEdges {
         Edge.refuses(x, "version(0, 0)", 1);
         Edge.refuses(x, "version(3, 0)", 1);
         Edge.tells(x, "size(3)", 2);
+        // what is held back by the first SLOT stays
+        StampedRows back = Edge.stored(HELD_BACK);
+        Edge.answers(back, "clear()", 1);
+        Edge.answers(back, "chain(0)", 1);
+        Edge.answers(back, "chain(1)", 1);
+        Edge.answers(back, "chain(2)", 0);
+        // the numbers that are left stay what they were
+        StampedRows sparse = Edge.stored(SPARSE + ";drop b 0;done b;clear");
+        Edge.answers(sparse, "chain(0)", 0);
+        Edge.answers(sparse, "chainAt(2, 0)", 4);
+        Edge.answers(sparse, "fresh(2)", 8);
         // what isn't DEAD stays, with the TILL of one gone
         Edge.answers(x, "version(1, 3)", 2);
         Edge.answers(x, "fresh(1)", 2);
@@ -538,6 +595,18 @@ final class TermEdges {
         pass(half, 3);
         Edge.answers(half, "age(0)", 4);
         Edge.answers(half, "freeze()", 1);
+        StampedRows back = Edge.stored(HELD_BACK);
+        Edge.answers(back, "version(0, 5)", 0);
+        Edge.answers(back, "freeze()", 1);
+        Edge.answers(back, "version(0, 2)", 1);
+        Edge.answers(back, "version(1, 2)", 1);
+        Edge.does(back, "gone(0)");
+        Edge.answers(back, "version(0, 5)", 1);
+        StampedRows sparse = Edge.stored(SPARSE + ";done b");
+        Edge.answers(sparse, "freezes()", 2);
+        Edge.answers(sparse, "freeze()", 2);
+        Edge.answers(sparse, "version(3, 2)", -2);
+        Edge.answers(sparse, "version(4, 2)", -2);
         StampedRows gone = Edge.stored(HEAD + ";begin a;put a 0 1;gone a");
         Edge.refuses(gone, "freeze()", 6);
         StampedRows runs = Edge.stored(HEAD + ";begin a;put a 0 1");
@@ -573,6 +642,14 @@ final class TermEdges {
         }
         Edge.refuses(x, "undo()", 0, 6);
         Edge.answers(x, "read(0, 0)", 1);
+        // values, TILL and FROM of numbers above how many there are
+        StampedRows sparse = Edge.stored(SPARSE);
+        Edge.does(sparse, "put(0, 0, 9)", "undo()");
+        Edge.answers(sparse, "read(0, 0)", 7);
+        Edge.does(sparse, "drop(0, 0)", "undo()");
+        Edge.answers(sparse, "version(3, 3)", -2);
+        Edge.does(sparse, "done(0)", "freeze()", "undo()");
+        Edge.answers(sparse, "version(3, 2)", 1);
         // a STAMP that was another's comes back to him
         StampedRows y = Edge.stored(HEAD);
         pass(y, 8);
@@ -622,13 +699,13 @@ final class TermEdges {
 
         Edge.says("III", "one whose STAMP another WRITER has had since changes nothing)");
         String round = HEAD + ";begin a;put a 0 1;done a;freeze;begin b;done b;begin c;done c;begin d;done d;begin e;done e;"
-            + "begin f;done f;begin g;done g;begin h;done h;";
+            + "begin f;done f;begin g;done g;begin h;put h 2 7;done h;";
         StampedRows seven = Edge.stored(round + "begin i;put i 1 3;done i;unsure h;unsure a;unsure i;seen 0 1;seen 1 3");
-        // h's STAMP is his alone, but he did nothing; a's is i's since
-        Edge.answers(seven, "version(1, 2)", 0);
+        // h's STAMP is his alone, but nobody saw what he did; a's is i's since
+        Edge.answers(seven, "version(2, 2)", 0);
         Edge.answers(seven, "fits()", 4);
         Edge.answers(seven, "could()", 3);
-        StampedRows runs = Edge.stored(round + "begin i;put i 1 3;unsure a;seen 0 1;seen 1 none");
+        StampedRows runs = Edge.stored(round + "begin i;put i 1 3;unsure a;seen 0 1;seen 1 none;seen 2 7");
         Edge.answers(runs, "fits()", 2);
         // not had since: one STAMP ahead of that
         StampedRows ahead = Edge.stored(HEAD + ";begin a;done a;begin b;put b 0 1;done b;unsure b;seen 0 none");
@@ -694,6 +771,12 @@ final class TermEdges {
         Edge.answers(lost, "mean(false)", 5);
         Edge.answers(lost, "drawn(0)", 5);
 
+        StampedRows second = Edge.stored("store ring 8 rows 2 start 0 crash 0;begin a;begin b;put a 0 5;put b 1 6;done a");
+        Edge.answers(second, "odds(1, 6, false)", 1);
+        Edge.answers(second, "put(1, 0, 9)", -2);
+        Edge.answers(second, "odds(1, 6, false)", 0);
+        Edge.answers(second, "mean(false)", 5);
+
         Edge.says("III", "By a SEED: SLOT by SLOT, for each who RUNS (LOST, too), a DRAW mod 100: below crash he is GONE");
         String three = "begin a;begin b;begin c;put a 0 1;put b 1 10;put c 2 100";
         // 0: 74, 5,624, 28,652
@@ -704,6 +787,9 @@ final class TermEdges {
         Edge.answers(Edge.stored("store ring 8 rows 3 start 0 crash 74;" + three), "drawn(0)", 1);
         Edge.answers(Edge.stored("store ring 8 rows 3 start 0 crash 75;" + three), "drawn(0)", 0);
         StampedRows x53 = Edge.stored("store ring 8 rows 3 start 0 crash 53;" + three);
+        // six: 74, 24, 52, 90, 41, 9
+        Edge.answers(Edge.stored("store ring 64 rows 6 start 0 crash 41;" + SIX), "drawn(0)", 29);
+        Edge.answers(Edge.stored("store ring 64 rows 6 start 0 crash 42;" + SIX), "drawn(0)", 13);
         // a free SLOT draws nothing: b draws 74 and c 24
         Edge.does(x53, "gone(0)");
         Edge.answers(x53, "drawn(0)", 10);

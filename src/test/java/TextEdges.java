@@ -267,6 +267,8 @@ final class TextEdges {
         Edge.says("I", "up to 4), or");
         String four = twelve() + ";unsure a;unsure l;unsure b;unsure c";
         Edge.tells(Edge.stored(four), "size(5)", 4);
+        Edge.tells(Edge.stored(twelve() + ";seen 0 none;seen 1 none;seen 2 none;seen 3 none;unsure a;unsure l;unsure b;"
+            + "unsure c"), "size(5)", 4);
         Edge.fault(5, four + ";^unsure d");
 
         Edge.says("I", "seen ROW WHOLE, seen ROW none");

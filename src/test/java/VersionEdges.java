@@ -220,6 +220,7 @@ final class VersionEdges {
         StampedRows x = Edge.stored(TWO);
         Edge.answers(x, "sum(0)", 31);
         Edge.answers(x, "sum(1)", 32);
+        Edge.answers(Edge.stored(TermEdges.SPARSE), "sum(0)", 15);
         Edge.answers(Edge.stored(HEAD + ";begin a"), "sum(0)", 0);
         StampedRows most = Edge.stored("store ring 8 rows 8 start 0 crash 0;begin a;put a 0 999;put a 1 999;put a 2 999;"
             + "put a 3 999;put a 4 999;put a 5 999;put a 6 999;put a 7 999");
@@ -381,6 +382,10 @@ final class VersionEdges {
         Edge.answers(x, "waitsFor(0, 1)", 1);
         Edge.answers(x, "waitsFor(0, 2)", 1);
         Edge.answers(x, "waitsFor(1, 0)", 0);
+        StampedRows six = Edge.stored("store ring 64 rows 6 start 0 crash 0;" + TermEdges.SIX);
+        for (int w = 1; w < 6; w++) {
+            Edge.answers(six, "waitsFor(0, " + w + ")", w);
+        }
 
         Edge.says(33, "-2 he isn't (or has LOST already).");
         Edge.answers(x, "waitsFor(0, 0)", -2);
